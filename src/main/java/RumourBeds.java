@@ -204,7 +204,8 @@ public final class RumourBeds {
         if (!isRumour(rumour) || !isWithin(n, DAYS_AHEAD) || !isWithin(what, 1)) {
             return finding(BEYOND);
         }
-        lookAhead(n);
+        ahead.becomes(street);
+        ahead.passDays(n);
         return what == 0 ? ahead.places[rumour] : ahead.bulks[rumour];
     }
 
@@ -212,7 +213,8 @@ public final class RumourBeds {
         if (!isHouse(house) || !isWithin(n, DAYS_AHEAD)) {
             return finding(BEYOND);
         }
-        lookAhead(n);
+        ahead.becomes(street);
+        ahead.passDays(n);
         return ahead.larders[house];
     }
 
@@ -234,7 +236,8 @@ public final class RumourBeds {
         if (!isWithin(n, DAYS_AHEAD)) {
             return finding(BEYOND);
         }
-        lookAhead(n);
+        ahead.becomes(street);
+        ahead.passDays(n);
         return ahead.rumours;
     }
 
@@ -612,11 +615,6 @@ public final class RumourBeds {
             sum += row[i];
         }
         return sum;
-    }
-
-    private void lookAhead(int n) {
-        ahead.becomes(street);
-        ahead.passDays(n);
     }
 
     /** The finding that a book of a house in a sheet meets; 0 if none. */

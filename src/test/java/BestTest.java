@@ -123,7 +123,7 @@ public final class BestTest {
         due.is("a dull one needs 6", x.leanFor(0, 5), 0);
         due.is("nothing changes", x.houseOf(0, 2), 3);
 
-        // Only by leaning further than house 1 does 0 get the wells (first), which eats nothing and keeps the bed.
+        // With 7 house 0 takes the wells one first, which eats nothing and keeps the bed.
         RumourBeds y = new RumourBeds();
         for (int h = 1; h < 8; h++) {
             y.house(h, 0, 0);
@@ -133,6 +133,10 @@ public final class BestTest {
         due.is("the wells one keeps the bed from the royal", y.leanFor(0, 5), 7);
         due.is("on 0 days all is one", y.leanFor(0, 0), 0);
         due.is("on 1 day none has eaten", y.leanFor(0, 1), 0);
+        // House 0 leans 8 and has the wells one unless house 1 leans further still.
+        y.house(1, 0, 1);
+        y.house(0, 2, 8);
+        due.is("furthest of all", y.leanFor(1, 5), 9);
         due.is("house 8", y.leanFor(8, 0), Due.BEYOND);
         due.is("house -1", y.leanFor(-1, 0), Due.BEYOND);
         due.is("n 21", y.leanFor(0, 21), Due.BEYOND);

@@ -73,6 +73,9 @@ public final class HousesTest {
         due.is("three lodge", x.houseOf(2, 3), 7);
         due.is("two events", x.houseOf(2, 4), (1 << 4) | (1 << 9));
         due.is("they eat 2, 1 and 7", x.houseOf(2, 5), 10);
+        due.is("nobody in 0", x.houseOf(0, 3), 0);
+        due.is("no events in 0", x.houseOf(0, 4), 0);
+        due.is("nothing eaten in 0", x.houseOf(0, 5), 0);
         due.is("nobody elsewhere", x.houseOf(3, 3), 0);
         due.is("no events elsewhere", x.houseOf(3, 4), 0);
         due.is("nothing eaten elsewhere", x.houseOf(3, 5), 0);

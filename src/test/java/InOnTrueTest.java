@@ -10,6 +10,7 @@ public final class InOnTrueTest {
         aLarderIsShort();
         aThird();
         noThird();
+        aThirdOfEventsApart();
         theThirdOfTheLeastOfThem();
         theRoadComesIn();
         ages();
@@ -196,6 +197,32 @@ public final class InOnTrueTest {
             z.comeIn(r);
         }
         due.is("two pairs of an event, but the first's third is on the road", z.days(1), 5);
+    }
+
+    private static void aThirdOfEventsApart() {
+        RumourBeds x = new RumourBeds();
+        x.house(3, 0, 3);
+        x.house(3, 2, 9);
+        int[] events = {0, 15, 0};
+        for (int r = 0; r < 3; r++) {
+            x.rumour(2, events[r]);
+            x.comeIn(r);
+        }
+        due.is("a third of event 0", x.days(1), 4);
+        due.is("its event", x.of(3, 1), 0);
+        x.set(0, 1, 15);
+        due.is("a third of event 15", x.days(1), 5);
+        due.is("its event", x.of(4, 1), 15);
+
+        RumourBeds y = new RumourBeds();
+        y.rumour(5, 6);
+        y.house(3, 0, 2);
+        y.house(3, 2, 6);
+        for (int r = 1; r < 3; r++) {
+            y.rumour(2, 6);
+            y.comeIn(r);
+        }
+        due.is("the first of all is on the road", y.days(1), 3);
     }
 
     private static void theThirdOfTheLeastOfThem() {

@@ -70,6 +70,9 @@ public final class TextTest {
         due.is("true", Due.town(x, "true 1;true 15"), 2);
         due.is("they are true", x.now(1), (1 << 1) | (1 << 15));
         due.is("the shy one left", x.of(3, 4), -1);
+        due.is("the edges", Due.town(x, "true 0;house 7 beds 2"), 2);
+        due.is("0 is true", x.now(1) & 1, 1);
+        due.is("beds of 7", x.houseOf(7, 0), 2);
         due.is("no finding", x.status(-1), 0);
     }
 
@@ -88,7 +91,8 @@ public final class TextTest {
             {"house 0 leans 10", 14}, {"house 0 larder 1 beds 1", 17}, {"house 0 leans 1 larder 1", 16},
             {"house 0 bulk 1", 8}, {"house 1 1", 8}, {"true", 4}, {"true 16", 5}, {"true 1 2", 7},
             {"true 1 true 2", 7}, {"true x", 5}, {"true 1;x", 7}, {"true ; 1", 5}, {"true \u00e9", 5},
-            {"true 1000", 5}, {"true 1;house 9 ?", 13},
+            {"true 1000", 5}, {"brue 1", 0}, {"trub 1", 0}, {"truez 1", 0}, {"true 1z", 6}, {"true{1", 4}, {"true`1", 4},
+            {"true/1", 4}, {"true:1", 4}, {"true 1;house 9 ?", 13},
         };
         for (Object[] row : rows) {
             RumourBeds x = new RumourBeds();
