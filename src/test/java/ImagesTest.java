@@ -83,6 +83,7 @@ public final class ImagesTest {
         x.days(1);
         x.undo();
         due.is("day 1, not 0", x.now(0), 1);
+        x.days(2);
         x.undo();
         due.is("again day 1", x.now(0), 1);
     }
@@ -197,6 +198,24 @@ public final class ImagesTest {
     @Says(promise = 41, words = "BEYOND: another what.")
     static void countOfNoWhat(RumourBeds x, Due due) {
         due.bounds(x, "what", x::count, 0, 3);
+    }
+
+    @Says(promise = Says.USE, words = "An object is used for at most 512 calls after it has been made;"
+        + " what later calls answer is free.")
+    static void theLastOfItsCalls(RumourBeds x, Due due) {
+        Towns.lodge(x, 0, 1, 0);
+        x.sheet(0, 16, 40);
+        x.image();
+        // Six calls so far.
+        for (int call = 7; call <= 511; call++) {
+            switch (call % 4) {
+                case 0: x.book(0, 0); break;
+                case 1: x.read(0, 0); break;
+                case 2: x.days(60); break;
+                default: x.undo();
+            }
+        }
+        due.is("the 512th", x.larder(0, 60), 0);
     }
 
     @Says(promise = 42, words = "How many acts answered a finding ever")

@@ -21,9 +21,9 @@ public final class InOnTrueTest {
 
     @Says(words = "To COME IN (one that is on the ROAD): into the HOUSE that TAKES it and LEANS furthest;")
     static void theLastMayLeanFurthest(RumourBeds x, Due due) {
-        x.house(7, 2, 9);
-        x.rumour(5, 1);
-        due.is("7", x.comeIn(0), 7);
+        x.house(7, 2, 4);
+        x.rumour(0, 1);
+        due.is("7, though all take it", x.comeIn(0), 7);
     }
 
     @Says(words = "of several the least;")

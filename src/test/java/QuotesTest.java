@@ -15,7 +15,6 @@ import java.util.regex.Pattern;
 public final class QuotesTest {
     private static final Class<?>[] TESTS = {FindingsTest.class, HousesTest.class, KindsTest.class, RumoursTest.class,
         DayTest.class, InOnTrueTest.class, AheadTest.class, BestTest.class, TextTest.class, SheetsTest.class, ImagesTest.class};
-    private static final int TERMS = 0;
     private static final int PROMISES = 42;
 
     private static final Due due = new Due();
@@ -23,7 +22,7 @@ public final class QuotesTest {
     public static void main(String[] args) throws Exception {
         String document = Files.readString(Path.of(System.getProperty("document")), StandardCharsets.UTF_8);
         Map<Integer, String> sections = sectionsOf(document);
-        due.is("sections", sections.size(), 1 + PROMISES);
+        due.is("sections", sections.size(), 2 + PROMISES);
         Map<Integer, BitSet> said = new TreeMap<>();
         for (int section : sections.keySet()) {
             said.put(section, new BitSet());
@@ -40,14 +39,16 @@ public final class QuotesTest {
         due.end();
     }
 
-    /** 0: the terms, 1 to 42: the promises, without the signatures ahead of them; one blank between words. */
+    /** The use, the terms, the promises without the signatures ahead of them; one blank between words. */
     private static Map<Integer, String> sectionsOf(String document) {
         Map<Integer, String> sections = new TreeMap<>();
         for (String part : document.split("(?m)^## ")) {
             String body = part.substring(part.indexOf('\n') + 1);
             Matcher promise = Pattern.compile("Promise (\\d+):").matcher(part);
-            if (part.startsWith("Terms")) {
-                sections.put(TERMS, plain(body.replaceAll("(?m)^Ahead of the calls .*$", "").replaceAll("(?m)^```(text)?$", "")));
+            if (part.startsWith("What it is")) {
+                sections.put(Says.USE, plain(body.substring(Math.max(0, body.indexOf("An object is used")))));
+            } else if (part.startsWith("Terms")) {
+                sections.put(Says.TERMS, plain(body.replaceAll("(?m)^Ahead of the calls .*$", "").replaceAll("(?m)^```(text)?$", "")));
             } else if (promise.lookingAt()) {
                 sections.put(Integer.valueOf(promise.group(1)), plain(body.replaceFirst("`[^`]*`:", "")));
             }

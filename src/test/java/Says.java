@@ -7,8 +7,12 @@ import java.lang.annotation.Target;
 @Retention(RetentionPolicy.RUNTIME)
 @Target(ElementType.METHOD)
 @interface Says {
-    /** The promise's number; 0: the terms ahead of the promises. */
-    int promise() default 0;
+    int TERMS = 0;
+    /** How an object is used, which the document says ahead of its face. */
+    int USE = -1;
+
+    /** The promise's number, or TERMS, or USE. */
+    int promise() default TERMS;
 
     String words();
 }

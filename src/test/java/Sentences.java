@@ -47,8 +47,7 @@ final class Sentences {
             return true;
         }
         Says says = test.getAnnotation(Says.class);
-        System.out.println(test.getName() + ", " + (says.promise() == 0 ? "terms" : "promise " + says.promise())
-            + ": \"" + says.words() + "\"");
+        System.out.println(test.getName() + ", promise " + says.promise() + ": \"" + says.words() + "\"");
         for (String line : due.wrong()) {
             System.out.println("    " + line);
         }

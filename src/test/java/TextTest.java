@@ -372,10 +372,12 @@ public final class TextTest {
         x.feed(0x75652032, 4);
         due.is("true1;true 2", x.town(), 2);
         due.is("1 and 2", x.now(1), 6);
-        x.feed(0x80747275, 4);
+        // 't' and '1', but for the highest bit.
+        x.feed(0xf4727565, 4);
         due.is("the highest bit of the highest byte", x.town(), -1);
-        x.feed(0x20202080, 4);
-        due.is("and of the lowest", x.town(), -4);
+        x.feed(0x74727565, 4);
+        x.feed(0xb1, 1);
+        due.is("and of the lowest", x.town(), -5);
     }
 
     @Says(promise = 29, words = "how many it has.")
