@@ -35,7 +35,9 @@ public final class ModelTest {
             if (List.of("undo", "image", "town", "wipe", "comesTrue").contains(m.getName())) times = 1;
             for (int i = 0; i < times; i++) drawn.add(m);
         }
+        Watch.endWithin(600);
         for (int run = 0; run < RUNS; run++) {
+            Watch.isDoing("run " + run);
             oneRun(run);
         }
         System.out.println(RUNS + " runs answer as the model does");

@@ -13,7 +13,9 @@ final class Sentences {
     static void run(Class<?> tests) {
         List<Method> all = testsOf(tests);
         int failed = 0;
+        Watch.endWithin(60);
         for (Method test : all) {
+            Watch.isDoing(test.getName());
             failed += passes(test) ? 0 : 1;
         }
         System.out.println(all.size() + " sentences, " + failed + " don't hold");
